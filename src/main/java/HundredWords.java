@@ -1,6 +1,6 @@
 import java.util.Arrays;
 
-/** Laws of at most a hundred words or so, in a tongue of who, what and when that is told as a text. */
+/** A hundred words of law: laws as short texts in a tongue of who, what and when that is itself told as a text. */
 public final class HundredWords {
     /** There is none; it is refused. */
     public static final int NONE = -1;
@@ -503,13 +503,10 @@ public final class HundredWords {
 
         /** The next byte that is no blank; NONE at the end. */
         int look() {
-            for (; at < length; at++) {
-                int octet = octetAt(at);
-                if (octet != LINE_END && octet != BLANK) {
-                    return octet;
-                }
+            while (at < length && (octets[at] == LINE_END || octets[at] == BLANK)) {
+                at++;
             }
-            return NONE;
+            return at < length ? octets[at] : NONE;
         }
 
         /** A word that a number touches is none. */
@@ -644,7 +641,13 @@ public final class HundredWords {
             allFree = 0;
         }
 
-        /** The one that is being told is behind the others till it is whole. */
+        /** The one that is being told stands behind the others till it is closed. */
+        void setParty(int ofParty) {
+            if (!isFull()) {
+                party[size] = ofParty;
+            }
+        }
+
         void setHow(boolean forbidden) {
             if (!isFull()) {
                 forbid[size] = forbidden;
@@ -658,12 +661,13 @@ public final class HundredWords {
             }
         }
 
-        void close(int ofParty, int perCase) {
-            if (!isFull()) {
-                party[size] = ofParty;
-                worthOfCase[size] = perCase;
-                size++;
+        boolean close(int perCase) {
+            if (isFull()) {
+                return false;
             }
+            worthOfCase[size] = perCase;
+            size++;
+            return true;
         }
 
         /** Which CASES there are is known only when the whole TONGUE is. */
@@ -951,33 +955,34 @@ public final class HundredWords {
         int read(Tongue tongue) {
             tongue.clear();
             tape.begin();
-            for (int count = 0; count < MOST_STATEMENTS; count++) {
-                if (tape.look() == NONE) {
-                    tongue.settle();
-                    return count;
-                }
-                if (!takesStatement(tongue)) {
+            int count = 0;
+            while (count < MOST_STATEMENTS && tape.look() != NONE) {
+                int kind = takesKind(tongue);
+                if (kind == NONE || !takesRest(tongue, kind) || !tape.takes(';')) {
                     return NONE;
                 }
+                count++;
             }
             if (tape.look() != NONE) {
                 tape.blame(TOO_MANY, tape.at);
                 return NONE;
             }
             tongue.settle();
-            return MOST_STATEMENTS;
+            return count;
         }
 
-        private boolean takesStatement(Tongue tongue) {
+        private int takesKind(Tongue tongue) {
             int kind = tape.seesWord() ? tape.rankIn(ownWords) : NONE;
             if (kind == NONE || kind > JUDGED) {
-                return tape.blame(WRONG_TEXT, tape.at);
+                tape.blame(WRONG_TEXT, tape.at);
+                return NONE;
             }
             if (tongue.isFull(kind)) {
-                return tape.blame(TOO_MANY, tape.at);
+                tape.blame(TOO_MANY, tape.at);
+                return NONE;
             }
             tape.pass();
-            return takesRest(tongue, kind) && tape.takes(';');
+            return kind;
         }
 
         private boolean takesRest(Tongue tongue, int kind) {
@@ -989,11 +994,11 @@ public final class HundredWords {
                 case PARTY:
                     return takesParty(tongue);
                 case WISH:
-                    return takesWish(tongue);
+                    return takesWisher(tongue) && takesCases(tongue, tongue.wishes) && takesWorth(tongue.wishes);
                 case PEACE:
-                    return takesTold(tongue, tongue.peace);
+                    return takesCases(tongue, tongue.peace) && tongue.peace.close(0);
                 case JUDGED:
-                    return takesTold(tongue, tongue.judgments);
+                    return takesCases(tongue, tongue.judgments) && tongue.judgments.close(0);
                 default:
                     return takesWordOfSort(tongue, kind);
             }
@@ -1050,7 +1055,7 @@ public final class HundredWords {
             return true;
         }
 
-        private boolean takesWish(Tongue tongue) {
+        private boolean takesWisher(Tongue tongue) {
             if (!tape.takesFreeWord(ownWords)) {
                 return false;
             }
@@ -1058,22 +1063,12 @@ public final class HundredWords {
             if (!tongue.isParty(found)) {
                 return tape.blame(WRONG_WORD, tape.start);
             }
-            if (!takesCases(tongue, tongue.wishes)) {
-                return false;
-            }
-            if (!tape.takesWordOf(ownWords, WORTH) || !tape.takesNumber(1, 99)) {
-                return false;
-            }
-            tongue.wishes.close(found - Tongue.FIRST_PARTY, tape.value);
+            tongue.wishes.setParty(found - Tongue.FIRST_PARTY);
             return true;
         }
 
-        private boolean takesTold(Tongue tongue, Told told) {
-            if (!takesCases(tongue, told)) {
-                return false;
-            }
-            told.close(NONE, 0);
-            return true;
+        private boolean takesWorth(Told wishes) {
+            return tape.takesWordOf(ownWords, WORTH) && tape.takesNumber(1, 99) && wishes.close(tape.value);
         }
 
         /** HOW, and three ONEs. */
@@ -1914,7 +1909,7 @@ public final class HundredWords {
             if (!takesBoth()) {
                 return false;
             }
-            while (sees(EITHER) && tape.at < tape.length) {
+            for (int turn = 0; turn < Tape.ROOM && sees(EITHER); turn++) {
                 tape.pass();
                 if (!takesBoth()) {
                     return false;
@@ -1928,7 +1923,7 @@ public final class HundredWords {
             if (!takesFact()) {
                 return false;
             }
-            while (sees(BOTH) && tape.at < tape.length) {
+            for (int turn = 0; turn < Tape.ROOM && sees(BOTH); turn++) {
                 tape.pass();
                 if (!takesFact()) {
                     return false;
@@ -1998,14 +1993,13 @@ public final class HundredWords {
             if (!takesProduct()) {
                 return false;
             }
-            int octet = tape.look();
-            while ((octet == '+' || octet == '-') && tape.at < tape.length) {
+            for (int turn = 0; turn < Tape.ROOM && (tape.look() == '+' || tape.look() == '-'); turn++) {
+                int octet = tape.look();
                 tape.at++;
                 if (!takesProduct()) {
                     return false;
                 }
                 then(octet);
-                octet = tape.look();
             }
             return true;
         }
@@ -2014,14 +2008,13 @@ public final class HundredWords {
             if (!takesPart()) {
                 return false;
             }
-            int octet = tape.look();
-            while ((octet == '*' || octet == '/') && tape.at < tape.length) {
+            for (int turn = 0; turn < Tape.ROOM && (tape.look() == '*' || tape.look() == '/'); turn++) {
+                int octet = tape.look();
                 tape.at++;
                 if (!takesPart()) {
                     return false;
                 }
                 then(octet);
-                octet = tape.look();
             }
             return true;
         }
