@@ -910,7 +910,9 @@ public final class HundredWords {
             weighGains(old, fresh);
             int balance = 0;
             for (int party = 0; party < parties; party++) {
-                balance += votesOf[party] * Integer.signum(gain[party]);
+                if (gain[party] != 0) {
+                    balance += gain[party] > 0 ? votesOf[party] : -votesOf[party];
+                }
             }
             return balance > 0;
         }

@@ -8,18 +8,25 @@ public final class ModelTest {
         {"lord", "serf", "a", "monk"}, {"geese", "murder", "b", "theft"}, {"day", "night", "c", "feast"},
         {"peer", "abcdef", "x", "y", "z", "likes"}, {"folk", "lords", "p", "q", "crown"},
     };
+    private static final String[] NOISE = {
+        "who", "what", "when", "like", "limit", "party", "votes", "wish", "peace", "judged", "forbid", "free", "any",
+        "worth", "and", "or", "not", "unless", "lord", "geese", "day", "peer", "folk", "abcdefg", "zzz", "0", "7",
+        "12345", ";", ".", "first", "total", "most", "all", "case", "law", "other", "borne", "min", "max", "(", ")",
+        "[", "]", ",", "+", "-", "*", "/", "<", ">", "=", "\u00ff", "B",
+    };
+    private static final int[] FAR = {Integer.MIN_VALUE, -47, -2, -1, 60, 61, 64, 1752, 4096, Integer.MAX_VALUE};
     private static final String ODD = "abz019 .;()[]<>=+-*/,\nAZ{`@:~";
 
-    private final Bench bench;
     private final Random random;
-    private final HundredWords words = new HundredWords();
-    private final Model model = new Model();
-    private final String name;
+    private final Twins twins;
+    private final HundredWords words;
+    private final Model model;
 
     private ModelTest(Bench bench, int seed) {
-        this.bench = bench;
-        this.random = new Random(seed);
-        this.name = "seed " + seed + " ";
+        random = new Random(seed);
+        twins = new Twins(bench, "seed " + seed);
+        words = twins.words;
+        model = twins.model;
     }
 
     public static void main(String[] args) {
@@ -48,11 +55,11 @@ public final class ModelTest {
     }
 
     private void due(String call, long got, long want) {
-        bench.due(name + call, got, want);
+        twins.due(call, got, want);
     }
 
     private void due(String call, boolean got, boolean want) {
-        bench.due(name + call, got, want);
+        twins.due(call, got, want);
     }
 
     private int below(int bound) {
@@ -64,18 +71,6 @@ public final class ModelTest {
     }
 
     // ---- texts
-
-    private void tell(String text) {
-        for (int first = 0; first < text.length(); first += 20) {
-            int[] numbers = new int[5];
-            for (int k = 0; k < 20; k++) {
-                int at = first + k;
-                numbers[k / 4] = numbers[k / 4] << 8 | (at < text.length() ? text.charAt(at) : 32);
-            }
-            due("feed", words.feed(numbers[0], numbers[1], numbers[2], numbers[3], numbers[4]), model.feed(numbers));
-        }
-        due("end", words.end(text.length()), model.end(text.length()));
-    }
 
     /** Now and then a text is spoilt. */
     private String spoilt(String text, int rarity) {
@@ -99,10 +94,7 @@ public final class ModelTest {
     }
 
     private void compareTongue() {
-        String text = spoilt(tongueText(), 6);
-        tell(text);
-        due("tongue() of " + text, words.tongue(), model.tongue());
-        compareFault(text);
+        twins.tongue(spoilt(tongueText(), 6));
         compareState();
     }
 
@@ -185,17 +177,18 @@ public final class ModelTest {
         }
     }
 
-    private void compareLaw(boolean other) {
-        String text = spoilt(lawText(), 8);
-        tell(text);
-        due("law(" + other + ") of " + text, words.law(other), model.law(other));
-        compareFault(text);
-    }
-
-    private void compareFault(String text) {
-        for (int what = -1; what < 3; what++) {
-            due("fault(" + what + ") of " + text, words.fault(what), model.fault(what));
+    /** Tokens without any sense, with and without blanks. */
+    private void compareNoise() {
+        StringBuilder text = new StringBuilder();
+        for (int k = below(12); k > 0; k--) {
+            text.append(NOISE[below(NOISE.length)]).append(oneIn(3) ? "" : " ");
         }
+        twins.tell(text.toString());
+        int call = below(4);
+        long got = call == 0 ? words.tongue() : call == 1 ? words.ask() : words.law(call == 2);
+        long want = call == 0 ? model.tongue() : call == 1 ? model.ask() : model.law(call == 2);
+        due("noise " + call + " of " + text, got, want);
+        twins.compareFault(text.toString());
     }
 
     // ---- questions
@@ -206,12 +199,9 @@ public final class ModelTest {
         String text = List.of("first ", "last ", "often ", "total ", "most ", "least ").get(kind)
             + (kind < 3 ? testText(depth) : sumText(depth));
         text = spoilt(text, 5);
-        if (text.length() > 1600) {
-            return;
+        if (text.length() <= 1600) {
+            twins.ask(text);
         }
-        tell(text);
-        due("ask() of " + text, words.ask(), model.ask());
-        compareFault(text);
     }
 
     private String testText(int depth) {
@@ -259,16 +249,16 @@ public final class ModelTest {
     private void compareCall() {
         int place = below(Math.max(1, model.sign(false, -1)) + 2) - 1;
         int sign = below(25) - 1;
-        switch (below(24)) {
-            case 0, 1 -> compareLaw(false);
-            case 2, 3 -> compareLaw(true);
-            case 4 -> compareEdit(0, place, sign);
-            case 5 -> compareEdit(0, place, 20);
-            case 6 -> compareEdit(1, place, 0);
-            case 7, 8 -> compareEdit(2, place, sign);
+        switch (below(26)) {
+            case 0, 1 -> twins.law(false, spoilt(lawText(), 8));
+            case 2, 3 -> twins.law(true, spoilt(lawText(), 8));
+            case 4 -> twins.edit(0, place, sign);
+            case 5 -> twins.edit(0, place, 20);
+            case 6 -> twins.edit(1, place, 0);
+            case 7, 8 -> twins.edit(2, place, sign);
             case 9 -> due("undo()", words.undo(), model.undo());
             case 10 -> compareChanges();
-            case 11 -> compareFewest(oneIn(2));
+            case 11 -> twins.compareFewest(oneIn(2));
             case 12 -> compareWay();
             case 13 -> compareParties();
             case 14 -> due("spring", words.spring(sign), model.spring(sign));
@@ -278,6 +268,8 @@ public final class ModelTest {
             case 18, 19, 20 -> compareQuestion();
             case 21 -> compareImage();
             case 22 -> compareNearLaw();
+            case 23 -> compareNoise();
+            case 24 -> compareFar(FAR[below(FAR.length)]);
             default -> compareBearing();
         }
         if (oneIn(4)) {
@@ -291,53 +283,23 @@ public final class ModelTest {
         }
     }
 
-    private void compareFewest(boolean other) {
-        for (int what = -1; what < 5; what++) {
-            due("fewest(" + other + ", " + what + ")", words.fewest(other, what), model.fewest(other, what));
-        }
-    }
-
     private void compareWay() {
         if (model.sign(false, -1) < 14 && model.sign(true, -1) < 14) {
-            due("way()", words.way(), model.way());
+            twins.compareWay("");
         }
     }
 
     /** THE OTHER LAW becomes like THE LAW, which then goes some steps away, so that ways are short. */
     private void compareNearLaw() {
         int size = model.sign(false, -1);
-        StringBuilder bytes = new StringBuilder();
-        bytes.append((char) size);
-        for (int k = 0; k < size; k++) {
-            bytes.append((char) model.sign(false, k));
-        }
-        compareRestore(sealed(bytes.toString() + bytes));
+        twins.makeAlike();
         int steps = 1 + below(5);
         for (int tries = 0; tries < 120 && steps > 0; tries++) {
-            if (compareEdit(below(3), below(size + 2), oneIn(3) ? 20 : below(23)) >= 0) {
+            if (twins.edit(below(3), below(size + 2), oneIn(3) ? 20 : below(23)) >= 0) {
                 steps--;
             }
         }
         compareWay();
-    }
-
-    private int compareEdit(int kind, int place, int sign) {
-        int got = kind == 0 ? words.put(place, sign) : kind == 1 ? words.strike(place) : words.swap(place, sign);
-        due("edit " + kind + " at " + place + " of " + sign, got, model.edit(kind, place, sign));
-        return got;
-    }
-
-    private static String sealed(String bytes) {
-        int seal = 101;
-        for (int k = 0; k < bytes.length(); k++) {
-            seal = (5 * seal + bytes.charAt(k)) % 239;
-        }
-        return bytes + (char) seal;
-    }
-
-    private void compareRestore(String bytes) {
-        tell(bytes);
-        due("restore()", words.restore(), model.restore());
     }
 
     private void compareImage() {
@@ -351,7 +313,7 @@ public final class ModelTest {
             }
         }
         if (oneIn(2)) {
-            compareRestore(spoilt(bytes.toString(), 2));
+            twins.restore(spoilt(bytes.toString(), 2));
         }
     }
 
@@ -385,6 +347,39 @@ public final class ModelTest {
         }
         for (int place = -1; place <= model.sign(false, -1); place++) {
             due("price(" + place + ")", words.price(place), model.price(place));
+        }
+    }
+
+    /** Numbers that are far from any that can be. */
+    private void compareFar(int far) {
+        String name = " of " + far;
+        due("has" + name, words.has(far), model.has(far));
+        due("fault" + name, words.fault(far), model.fault(far));
+        due("letter" + name, words.letter(far, 0), model.letter(far, 0));
+        due("letter k" + name, words.letter(0, far), model.letter(0, far));
+        due("sign" + name, words.sign(false, far), model.sign(false, far));
+        due("size" + name, words.size(true, far), model.size(true, far));
+        due("forbids" + name, words.forbids(false, far), model.forbids(false, far));
+        due("borne" + name, words.borne(far, 0), model.borne(far, 0));
+        due("borne k" + name, words.borne(0, far), model.borne(0, far));
+        due("led" + name, words.led(far, 0), model.led(far, 0));
+        due("led k" + name, words.led(0, far), model.led(0, far));
+        due("price" + name, words.price(far), model.price(far));
+        due("changes" + name, words.changes(far), model.changes(far));
+        due("fewest" + name, words.fewest(false, far), model.fewest(false, far));
+        due("brief" + name, words.brief(far, 0), model.brief(far, 0));
+        due("brief what" + name, words.brief(0, far), model.brief(0, far));
+        due("hole" + name, words.hole(true, far), model.hole(true, far));
+        due("worth" + name, words.worth(false, far), model.worth(false, far));
+        due("spring" + name, words.spring(far), model.spring(far));
+        due("fitting" + name, words.fitting(far), model.fitting(far));
+        due("seed" + name, words.seed(far), model.seed(far));
+        due("octet" + name, words.octet(far), model.octet(far));
+        due("status" + name, words.status(far), model.status(far));
+        due("end" + name, words.end(far), model.end(far));
+        for (int kind = 0; kind < 3; kind++) {
+            twins.edit(kind, far, 0);
+            twins.edit(kind, 0, kind == 1 ? 0 : far);
         }
     }
 

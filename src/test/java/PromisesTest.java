@@ -59,6 +59,7 @@ public final class PromisesTest {
         test.octet();
         test.restore();
         test.restoreEdges();
+        test.restoreLong();
         test.status();
         test.bench.finish("PromisesTest");
     }
@@ -377,6 +378,8 @@ public final class PromisesTest {
         speak("who a; what c;");
         law("a.");
         due("forbids without cases", x.forbids(false, 0), NONE);
+        law("not a.");
+        due("nothing is forbidden without cases", x.size(false, 2), 0);
         speak("who a; who b; who c; who d; what e; what f; what g; what h; when i; when j; when k; when l;");
         law("d and h and l.");
         due("forbids(false, 63)", x.forbids(false, 63), 1);
@@ -591,6 +594,11 @@ public final class PromisesTest {
         law("d.");
         due("fewest(false, 2) of another law", x.fewest(false, 2), 6);
         due("fewest(true, 2) again", x.fewest(true, 2), 4);
+        law("a.");
+        due("fewest(false, 0) of cases 0 and 2", x.fewest(false, 0), 1);
+        Bench.tell(x, "who b; what c; what a; what d; what f; when e;");
+        x.tongue();
+        dueFewest("c. d.", 2, 2, 2, 6);
     }
 
     private void fewestEdges() {
@@ -928,6 +936,10 @@ public final class PromisesTest {
         speak("who a; who b; who c; who d; what e; what f; what g; what h; when i; when j; when k; when l;");
         due("total is not held", ask("total 9999*9999"), 64000000);
         due("total is not held below", ask("total 0-9999*9999"), -64000000);
+        String ones = "total 1" + "+1".repeat(796);
+        for (int turn = 0; turn < 4; turn++) {
+            due("a sum of 797 ones", ask(ones), 64 * 797);
+        }
     }
 
     // ---- promises 35 to 38: images, refusals
@@ -1019,6 +1031,27 @@ public final class PromisesTest {
         due("restore() at the limit", restored(4, 20, 20, 0, 22, 0, sealOf(4, 20, 20, 0, 22, 0)), true);
         dueSigns("at the limit", false, NOT, NOT, 0, STOP);
         due("size(false, 0)", x.size(false, 0), 3);
+    }
+
+    private void restoreLong() {
+        speak(SMALL);
+        law("a.".repeat(30));
+        other("b.".repeat(30));
+        int[] most = new int[x.image()];
+        for (int k = 0; k < most.length; k++) {
+            most[k] = x.octet(k);
+        }
+        law("c.");
+        due("restore() of most", restored(most), true);
+        due("sign(false, NONE)", x.sign(false, NONE), 60);
+        due("sign(true, 58)", x.sign(true, 58), 1);
+        int[] more = new int[65];
+        more[0] = 62;
+        for (int k = 1; k < 63; k++) {
+            more[k] = k % 2 == 0 ? STOP : 0;
+        }
+        more[64] = sealOf(Arrays.copyOf(more, 64));
+        due("restore() of 62 signs", restored(more), false);
     }
 
     private void status() {
