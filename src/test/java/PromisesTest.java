@@ -691,6 +691,9 @@ public final class PromisesTest {
         speak(SMALL + "peace forbid a c e;");
         other("a.");
         due("way() from a law that does not keep the peace", x.way(), NONE);
+        speak(SMALL + "like g a; peace free any d any;");
+        // b and b, a and g break the peace: c comes for a, g for b, b for c.
+        dueWay("a and b.", "b and g.", 3);
     }
 
     private void hole() {

@@ -2,7 +2,7 @@ import java.util.Random;
 
 /** Ways against the model, which tries all changes: laws some steps from one another, with a peace in the way. */
 public final class WaysTest {
-    private static final int RUNS = 250;
+    private static final int RUNS = 800;
     private static final int WAYS = 4;
     private static final String WORDS = "abcdefg";
 
