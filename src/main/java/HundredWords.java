@@ -1741,8 +1741,8 @@ public final class HundredWords {
         private final Row[] stages;
 
         Way() {
-            stages = new Row[MOST_STEPS];
-            for (int k = 0; k < MOST_STEPS; k++) {
+            stages = new Row[MOST_STEPS - 1];
+            for (int k = 0; k < stages.length; k++) {
                 stages[k] = new Row();
             }
         }
@@ -1768,7 +1768,7 @@ public final class HundredWords {
                 return steps == 1;
             }
             boolean tight = !isNear(from, 0, to, 0, steps - 1);
-            Row stage = stages[steps - 1];
+            Row stage = stages[steps - 2];
             int behind = (from.size + 1) * CHOICES;
             for (int number = 0; number < behind; number++) {
                 if (tight && !isOnTheWay(to, number, steps - 1)) {

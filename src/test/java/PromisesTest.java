@@ -599,6 +599,25 @@ public final class PromisesTest {
         Bench.tell(x, "who b; what c; what a; what d; what f; when e;");
         x.tongue();
         dueFewest("c. d.", 2, 2, 2, 6);
+        fewestOfNewTongues();
+    }
+
+    /** Nothing of an old tongue's short sentences is left, where the same cases are told by other words. */
+    private void fewestOfNewTongues() {
+        speak(SMALL);
+        other("a.");
+        due("fewest(true, 0) of cases 0 and 2", x.fewest(true, 0), 1);
+        Bench.tell(x, "who b; what c; what a; what d; what f; when e;");
+        x.tongue();
+        other("c. d.");
+        due("fewest(true, 0) of a new tongue", x.fewest(true, 0), 2);
+        due("fewest(true, 3) of a new tongue", x.fewest(true, 3), 6);
+        // Here e and i forbids cases 0 to 3, which no short sentence of the next tongue does.
+        speak("who a; who b; who c; who d; what e; what f; what g; what h; when i; when j; when k; when l;");
+        due("shorts() of the old tongue", x.shorts(), 24 + 3 * 576);
+        Bench.tell(x, "who a; who b; who f; what c; what d; what g; when e;");
+        x.tongue();
+        dueFewest("c. a and d. f and g.", NONE, NONE, NONE, NONE);
     }
 
     private void fewestEdges() {
