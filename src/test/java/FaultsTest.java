@@ -1,10 +1,7 @@
 /** Texts of tongues, laws and questions with their faults: in each text ^ marks the place that is due. */
-public final class FaultsTest {
+public final class FaultsTest extends Court {
     private static final String TONGUE =
         "who a; who b; what c; what d; when f; like e a; party p votes 1; limit 9;";
-
-    private final Bench bench = new Bench();
-    private final HundredWords words = new HundredWords();
 
     public static void main(String[] args) {
         FaultsTest test = new FaultsTest();
@@ -22,33 +19,6 @@ public final class FaultsTest {
         test.fineQuestions();
         test.faultsOfTheLatest();
         test.bench.finish("FaultsTest");
-    }
-
-    /** call: t tongue(), l law(false), o law(true), a ask(). */
-    private long read(char call, String text) {
-        Bench.tell(words, text);
-        return call == 't' ? words.tongue() : call == 'a' ? words.ask() : words.law(call == 'o');
-    }
-
-    private void wrong(char call, int fault, String marked) {
-        int place = marked.indexOf('^');
-        String text = marked.substring(0, place) + marked.substring(place + 1);
-        String name = call + " of \"" + text + "\"";
-        bench.due(name, read(call, text), call == 'a' ? HundredWords.NOTHING : HundredWords.NONE);
-        bench.due(name + " fault(0)", words.fault(0), fault);
-        bench.due(name + " fault(1)", words.fault(1), place);
-    }
-
-    private void fine(char call, String text, long answer) {
-        String name = call + " of \"" + text + "\"";
-        bench.due(name, read(call, text), answer);
-        bench.due(name + " fault(0)", words.fault(0), 0);
-        bench.due(name + " fault(1)", words.fault(1), HundredWords.NONE);
-    }
-
-    private void wrongLaw(int fault, String marked) {
-        wrong('l', fault, marked);
-        wrong('o', fault, marked);
     }
 
     private void tongueTexts() {
@@ -139,7 +109,7 @@ public final class FaultsTest {
     }
 
     private void lawTexts() {
-        fine('t', TONGUE, 8);
+        fineTongue(TONGUE, 8);
         String[] texts = {
             "a^", "a ^", "a and^", "a and \n^", "not^", "a unless^", "a unless b^", "a unless not^", "a.b^",
             "a. not ^",
@@ -175,7 +145,7 @@ public final class FaultsTest {
         wrongLaw(1, "a. a. a. a. a. a. a. a. a.^.");
         wrongLaw(5, "a. a. a. a. a. a. a. a. a. ^b.");
         fine('l', nine + ".", 9);
-        fine('t', "who a; what c; when f;", 3);
+        fineTongue("who a; what c; when f;", 3);
         String sixty = "a.".repeat(30);
         wrongLaw(5, sixty + "^a");
         wrongLaw(5, sixty + " ^x");
@@ -191,7 +161,7 @@ public final class FaultsTest {
     }
 
     private void fineLaws() {
-        fine('t', TONGUE, 8);
+        fineTongue(TONGUE, 8);
         fine('l', "", 0);
         fine('l', " \n", 0);
         fine('o', "e.", 1);
@@ -236,7 +206,7 @@ public final class FaultsTest {
     }
 
     private void fineQuestions() {
-        fine('t', TONGUE, 8);
+        fineTongue(TONGUE, 8);
         fine('a', "first [[[[[[all]]]]]] and [[[[[[all]]]]]]", 0);
         fine('a', "first not not not not not not all and not not case=0", 0);
         fine('a', "total borne borne borne borne borne borne 1+borne 1+((((((1))))))", 4);
@@ -254,15 +224,17 @@ public final class FaultsTest {
         bench.due("fault(0) ahead of any", fresh.fault(0), 0);
         bench.due("fault(1) ahead of any", fresh.fault(1), HundredWords.NONE);
         wrong('t', 1, "who ^");
-        bench.due("fault(2)", words.fault(2), HundredWords.NONE);
-        bench.due("fault(-1)", words.fault(-1), HundredWords.NONE);
-        Bench.tell(words, "x");
-        bench.due("restore() of x", words.restore(), false);
-        bench.due("fault(0) behind restore()", words.fault(0), 1);
-        bench.due("fault(1) behind restore()", words.fault(1), 4);
-        fine('t', "who a; what c; when f; peace forbid a c f;", 4);
-        fine('l', "not a.", -2);
-        wrong('a', 1, "first^");
-        fine('o', "not a.", 2);
+        due("fault(2)", x.fault(2), NONE);
+        due("fault(-1)", x.fault(-1), NONE);
+        Bench.tell(x, "x");
+        due("restore() of x", x.restore(), false);
+        due("fault(0) behind restore()", x.fault(0), 1);
+        due("fault(1) behind restore()", x.fault(1), 4);
+        speak("who a; what c; when f; peace forbid a c f;");
+        due("law of too little", law("not a."), -2);
+        due("fault(0) of -2", x.fault(0), 0);
+        due("ask()", ask("first"), HundredWords.NOTHING);
+        due("other law of too little", other("not a."), 2);
+        due("fault(0) behind it", x.fault(0), 0);
     }
 }

@@ -1,20 +1,11 @@
 import java.util.Arrays;
 
 /** Each promise of the document: ordinary inputs, the edges, wrong inputs; the answers were worked out by hand. */
-public final class PromisesTest {
-    private static final int NONE = HundredWords.NONE;
+public final class PromisesTest extends Court {
     /** Cases: 0 a c e, 1 b c e, 2 a d e, 3 b d e. */
     private static final String SMALL = "who a; who b; what c; what d; when e;";
     private static final String PARTIES = SMALL + "party p votes 3; party q votes 2; wish p forbid a any any worth 5;"
         + "wish q free a c any worth 4; wish q forbid b any any worth 1;";
-    private static final int AND = 18;
-    private static final int OR = 19;
-    private static final int NOT = 20;
-    private static final int UNLESS = 21;
-    private static final int STOP = 22;
-
-    private final Bench bench = new Bench();
-    private HundredWords x = new HundredWords();
 
     public static void main(String[] args) {
         PromisesTest test = new PromisesTest();
@@ -65,52 +56,6 @@ public final class PromisesTest {
     }
 
     // ---- helpers
-
-    private void due(String call, long got, long want) {
-        bench.due(call, got, want);
-    }
-
-    private void due(String call, boolean got, boolean want) {
-        bench.due(call, got, want);
-    }
-
-    /** A new object that speaks a tongue. */
-    private void speak(String text) {
-        x = new HundredWords();
-        Bench.tell(x, text);
-        due("tongue() of " + text, x.tongue(), text.chars().filter(c -> c == ';').count());
-    }
-
-    private int law(String text) {
-        Bench.tell(x, text);
-        return x.law(false);
-    }
-
-    private int other(String text) {
-        Bench.tell(x, text);
-        return x.law(true);
-    }
-
-    private long ask(String text) {
-        Bench.tell(x, text);
-        return x.ask();
-    }
-
-    private boolean restored(int... bytes) {
-        StringBuilder text = new StringBuilder();
-        for (int octet : bytes) {
-            text.append((char) octet);
-        }
-        Bench.tell(x, text.toString());
-        return x.restore();
-    }
-
-    private void dueSigns(String when, boolean other, int... signs) {
-        due(when + ": signs", x.sign(other, NONE), signs.length);
-        for (int k = 0; k < signs.length; k++) {
-            due(when + ": sign " + k, x.sign(other, k), signs[k]);
-        }
-    }
 
     private void dueFewest(String law, int words, int sentences, int first, int second) {
         law(law);
@@ -1026,14 +971,6 @@ public final class PromisesTest {
         due("restore() of empty laws", restored(0, 0, 135), true);
         dueSigns("empty", false);
         dueSigns("empty", true);
-    }
-
-    private static int sealOf(int... bytes) {
-        int seal = 101;
-        for (int octet : bytes) {
-            seal = (5 * seal + octet) % 239;
-        }
-        return seal;
     }
 
     private void restoreEdges() {
