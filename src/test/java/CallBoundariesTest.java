@@ -1,7 +1,9 @@
 import java.util.Arrays;
 import java.util.function.IntUnaryOperator;
 
-/** Promises 1 to 38, sentence by sentence: the last input inside each boundary, the first one beyond it, and far ones. */
+/**
+ * Promises 1 to 38, sentence by sentence: the last input inside each boundary, the first one beyond it, and far ones.
+ */
 public final class CallBoundariesTest extends Court {
     /** Cases: 0 a e i, 1 b e i, 2 a f i, 3 b f i. */
     private static final String FOUR = "who a;who b;what e;what f;when i;";
@@ -24,6 +26,8 @@ public final class CallBoundariesTest extends Court {
         test.end();
         test.tongueWithoutFault();
         test.tongueWithFault();
+        test.tonguesInTurn();
+        test.textsBehindRefusedOnes();
         test.law();
         test.lawWithFault();
         test.lawAgainstThePeace();
@@ -41,6 +45,7 @@ public final class CallBoundariesTest extends Court {
         test.price();
         test.refusedChanges();
         test.lastTwentyActs();
+        test.lastTwentyLongActs();
         test.undoOfEachKind();
         test.noActs();
         test.changes();
@@ -63,6 +68,7 @@ public final class CallBoundariesTest extends Court {
         test.askOfNone();
         test.octet();
         test.latestImage();
+        test.restoreOfFewBytes();
         test.restoreOfWrongBytes();
         test.restoreOfUnlawfulRows();
         test.restoreToTheLimits();
@@ -255,7 +261,9 @@ public final class CallBoundariesTest extends Court {
         due("the other law", other("a."), NONE);
     }
 
-    /** "NONE, refused (1), with a FAULT (all stays)": a fault of each kind, at the end of a text that would tell much. */
+    /**
+     * "NONE, refused (1), with a FAULT (all stays)": a fault of each kind, at the end of a text that would tell much.
+     */
     private void tongueWithFault() {
         String much = "when b;what a;who f;who i;limit 3;party u votes 9;wish u free any any any worth 9;"
             + "peace free any any any;judged free any any any;";
@@ -277,6 +285,72 @@ public final class CallBoundariesTest extends Court {
             due("undo()", x.undo(), true);
             dueSigns("what was undone", false, NOT, NOT, 0, STOP);
             due("the seed stays", x.stroke(), 0);
+        }
+    }
+
+    /** "The tape .. is THE TONGUE": nothing of the ones ahead of it is left. */
+    private void tonguesInTurn() {
+        String full = tongueOf(4, 4, 4) + row("like m% l;", 6) + row("party p% votes 9;", 5)
+            + "wish pa forbid any any any worth 9;".repeat(16) + "peace free a any any;".repeat(8)
+            + "judged forbid a any any;".repeat(10) + "limit 3;";
+        String few = "who z;what y;when x;like w z;party v votes 2;wish v free any any any worth 4;"
+            + "peace free any y any;judged free any any x;limit 7;";
+        String none = "who m;what b;when n;";
+        String[] texts = {full, few, none, "", full, none, few, "", few, none, full};
+        int[] ofFull = {4, 4, 4, 6, 3, 5, 16, 8, 10, 64, 0};
+        int[] ofFew = {1, 1, 1, 1, 7, 1, 1, 1, 1, 1, 0};
+        int[] ofNone = {1, 1, 1, 0, 40, 0, 0, 0, 0, 1, 0};
+        int[] ofNothing = {0, 0, 0, 0, 40, 0, 0, 0, 0, 0, 0};
+        x = new HundredWords();
+        for (String text : texts) {
+            due("tongue()", tongue(text), text.chars().filter(c -> c == ';').count());
+            int[] wanted = text == full ? ofFull : text == few ? ofFew : text == none ? ofNone : ofNothing;
+            for (int what = 0; what < wanted.length; what++) {
+                due("has(" + what + ")", x.has(what), wanted[what]);
+            }
+            int literals = 2 * (wanted[0] + wanted[1] + wanted[2]);
+            due("shorts()", x.shorts(), literals + 3 * literals * literals);
+            due("letter(1, 0)", x.letter(1, 0), text == full ? 2 : NONE);
+            due("letter(21, 0)", x.letter(21, 0), text == full ? 16 : NONE);
+            due("worth(false, 0)", x.worth(false, 0), text == few ? 4 : text == full ? 0 : NONE);
+            due("size(false, 4)", x.size(false, 4), 1);
+            due("judged()", x.judged(), text == full ? 0 : NONE);
+            due("the limit", law("not ".repeat(wanted[4]) + "z."), NONE);
+            due("its fault", x.fault(0), 5);
+            due("a law of all", law(text == full ? "b." : text == few ? "y and not y." : text == none ? "m." : ""),
+                text == few ? 4 : text.isEmpty() ? 0 : 1);
+            due("forbids(false, 0)", x.forbids(false, 0), text == none ? 1 : text.isEmpty() ? NONE : 0);
+            due("fewest(false, 2)", x.fewest(false, 2), text == full ? 2 : text == none ? 0 : NONE);
+            due("fitting(1)", x.fitting(1), text == full ? 16 : 0);
+            due("fitting(2)", x.fitting(2), text == full ? 64 : text == none ? 1 : 0);
+        }
+    }
+
+    /** What a text left half read is not there when the next one is read. */
+    private void textsBehindRefusedOnes() {
+        x = new HundredWords();
+        String all = "who a;what b;when c;like d a;limit 3;party p votes 1;wish p free any any any worth 9;"
+            + "peace forbid any any any;judged free any any any;";
+        due("a fault at the end", tongue(all + "x"), NONE);
+        due("tongue()", tongue("who a;what b;when c;party p votes 2;"), 4);
+        int[] wanted = {1, 1, 1, 0, 40, 1, 0, 0, 0, 1, 0};
+        for (int what = 0; what < wanted.length; what++) {
+            due("has(" + what + ") behind a refused tongue", x.has(what), wanted[what]);
+        }
+        due("four of a sort behind a refused tongue", tongue(row("who %;", 4) + "who"), NONE);
+        due("tongue()", tongue(row("who %;", 4) + "what e;when f;"), 6);
+        due("a fault at the end", law("a.".repeat(30) + "a"), NONE);
+        due("30 sentences behind a refused law", law("b.".repeat(30)), 30);
+        due("a fault at the end", law("not ".repeat(39) + "a"), NONE);
+        due("40 words behind a refused law", law("not ".repeat(39) + "a."), 40);
+        for (String text : new String[] {"often [[[[[[", "often not not not", "total borne borne 1 1",
+            "total ((((((1)))))+"}) {
+            due("a fault with much open", ask(text), HundredWords.NOTHING);
+            due("six open behind it", ask("often [[[[[[all]]]]]]"), 4);
+            due("a fault with much open", ask(text), HundredWords.NOTHING);
+            due("seven open behind it", ask("often [[[[[[[all]]]]]]]"), HundredWords.NOTHING);
+            due("its fault", x.fault(0), 4);
+            due("its place", x.fault(1), 12);
         }
     }
 
@@ -346,13 +420,16 @@ public final class CallBoundariesTest extends Court {
         due("status(1)", x.status(1), texts.length);
     }
 
-    /** "Of the latest tongue(), law() or ask(): its FAULT (what 0; 0 without, and ahead of any), its place (1; NONE without)". */
+    /**
+     * "Of the latest tongue(), law() or ask(): its FAULT (what 0; 0 without, and ahead of any), its place (1; NONE
+     * without)".
+     */
     private void faultOfTheLatest() {
         x = new HundredWords();
         due("fault(0) ahead of any", x.fault(0), 0);
         due("fault(1) ahead of any", x.fault(1), NONE);
-        String[] texts = {"t", "who;", "t", "who a;what b;when c;", "l", "a", "o", "z.", "a", "total 1", "a", "total", "l", "a.",
-            "o", "a a", "t", "limit 0;", "l", "a."};
+        String[] texts = {"t", "who;", "t", "who a;what b;when c;", "l", "a", "o", "z.", "a", "total 1", "a", "total",
+            "l", "a.", "o", "a a", "t", "limit 0;", "l", "a."};
         int[] faults = {1, 0, 1, 3, 0, 1, 0, 1, 2, 0};
         int[] places = {3, NONE, 1, 0, NONE, 5, NONE, 2, 6, NONE};
         for (int k = 0; k < faults.length; k++) {
@@ -575,7 +652,8 @@ public final class CallBoundariesTest extends Court {
         other("b.");
         x.image();
         String before = told();
-        int[][] tries = {{0, 0, NOT}, {0, 0, 1}, {0, 4, STOP}, {0, 6, NOT}, {0, -1, NOT}, {0, 0, 23}, {0, 0, -1}, {0, 0, 2},
+        int[][] tries = {{0, 0, NOT}, {0, 0, 1}, {0, 4, STOP}, {0, 6, NOT}, {0, -1, NOT}, {0, 0, 23}, {0, 0, -1},
+            {0, 0, 2},
             {1, 0, 0}, {1, 2, 0}, {1, 4, 0}, {1, 5, 0}, {1, -1, 0}, {2, 0, 0}, {2, 0, 1}, {2, 0, 2}, {2, 0, AND},
             {2, 3, 4}, {2, 5, 0}, {2, -1, 0}, {2, 0, 23}, {2, 0, -1}, {2, 4, 0}, {2, 1, NOT}};
         for (int k = 0; k < tries.length; k++) {
@@ -615,7 +693,27 @@ public final class CallBoundariesTest extends Court {
         }
     }
 
-    /** "law() of THE LAW (also with the same SIGNS), put(), strike(), swap(), spring(), stroke() that did something". */
+    /** All of 60 SIGNS, each another one. */
+    private void lastTwentyLongActs() {
+        speak(FOUR);
+        for (int act = 0; act < 25; act++) {
+            law("a.".repeat(act) + "b." + "a.".repeat(29 - act));
+        }
+        for (int act = 23; act > 3; act--) {
+            due("undo() to act " + act, x.undo(), true);
+            for (int k = 0; k < 60; k += 2) {
+                if (k == 58 || k / 2 - act < 2 && k / 2 - act > -2) {
+                    due("sign(false, " + k + ")", x.sign(false, k), k == 2 * act ? 1 : 0);
+                }
+            }
+            due("sign(false, NONE)", x.sign(false, NONE), 60);
+        }
+        due("undo() of no more", x.undo(), false);
+    }
+
+    /**
+     * "law() of THE LAW (also with the same SIGNS), put(), strike(), swap(), spring(), stroke() that did something".
+     */
     private void undoOfEachKind() {
         for (int kind = 0; kind < 7; kind++) {
             speak(FOUR + "party p votes 1;wish p forbid b any any worth 1;");
@@ -745,7 +843,9 @@ public final class CallBoundariesTest extends Court {
         dueSigns("way() changes nothing", false, 0, STOP);
     }
 
-    /** "The k-th CASE that THE LAW leaves free and THE OTHER forbids (forward true: a hole), or the other way about". */
+    /**
+     * "The k-th CASE that THE LAW leaves free and THE OTHER forbids (forward true: a hole), or the other way about".
+     */
     private void hole() {
         speak(tongueOf(4, 4, 4));
         other("a or not a.");
@@ -898,6 +998,17 @@ public final class CallBoundariesTest extends Court {
         for (int what = 0; what < 3; what++) {
             due("fitting(" + what + ") without words", x.fitting(what), 0);
         }
+        // a, and what is more, forbids a: with judged free b all that fit forbid the two cases of a alone.
+        speak(FOUR + "judged forbid a any any;judged free b any any;");
+        due("fitting(1) of a", x.fitting(1), 2);
+        due("fitting(2) of a", x.fitting(2), 2);
+        // Case 0 is forbidden by all that fit, each other one by some: a, e, i.
+        speak(FOUR + "judged forbid a e i;");
+        due("fitting(1) of case 0", x.fitting(1), 1);
+        due("fitting(2) of case 0", x.fitting(2), 4);
+        speak(FOUR + "judged free b f i;");
+        due("fitting(1) of all but case 3", x.fitting(1), 0);
+        due("fitting(2) of all but case 3", x.fitting(2), 3);
         // Of the three on the diagonal no short sentence forbids all and nothing else.
         speak(tongueOf(3, 3, 1) + "judged forbid a e i;judged forbid b f i;judged forbid c g i;judged free a f i;"
             + "judged free a g i;judged free b e i;judged free b g i;judged free c e i;judged free c f i;");
@@ -910,7 +1021,8 @@ public final class CallBoundariesTest extends Court {
     private void judged() {
         StringBuilder text = new StringBuilder(tongueOf(4, 4, 1));
         for (int k = 0; k < 10; k++) {
-            text.append("judged forbid ").append("abcd".charAt(k % 4)).append(' ').append("efg".charAt(k / 4)).append(" i;");
+            text.append("judged forbid ").append("abcd".charAt(k % 4));
+            text.append(' ').append("efg".charAt(k / 4)).append(" i;");
         }
         speak(text.toString());
         String[] laws = {"", "a.", "a.b.", "a.b.c.", "e.", "e.a.", "e.f.", "e.f.a.", "e.f.g.", "e.f.g unless b.", "i."};
@@ -1059,6 +1171,20 @@ public final class CallBoundariesTest extends Court {
         due("octet(5)", x.octet(5), NONE);
     }
 
+    /** The least IMAGE has three bytes. */
+    private void restoreOfFewBytes() {
+        for (int octet = 0; octet < 256; octet++) {
+            speak(PARTIES);
+            law("a.");
+            due("restore() of " + octet, restored(octet), false);
+            due("restore() of 0 and " + octet, restored(0, octet), false);
+            due("restore() of 1 and " + octet, restored(1, octet), false);
+            due("restore() of 0, 0 and " + octet, restored(0, 0, octet), octet == 135);
+            due("status(5)", x.status(5), octet == 135 ? 3 : 4);
+            due("the law", x.sign(false, NONE), octet == 135 ? 0 : 2);
+        }
+    }
+
     /** "false, refused (5), when it is none (all stays)": bytes too few, too many, or otherwise. */
     private void restoreOfWrongBytes() {
         speak(PARTIES);
@@ -1144,6 +1270,12 @@ public final class CallBoundariesTest extends Court {
         for (int length = 56; length < 66; length++) {
             due("restore() of " + length + " signs", restored(imageOf(longRow(length), new int[0])), length <= 60);
             due("restore() of other " + length, restored(imageOf(new int[0], longRow(length))), length <= 60);
+        }
+        for (int more : new int[] {0, NOT, STOP, 23, 255}) {
+            int[] row = Arrays.copyOf(longRow(60), 61);
+            row[60] = more;
+            due("restore() of 60 and " + more, restored(imageOf(row, new int[0])), false);
+            due("restore() of other 60 and " + more, restored(imageOf(new int[0], row)), false);
         }
         due("restore() of 60 and 60", restored(imageOf(longRow(60), longRow(60))), true);
         due("restore() of 60 and 61", restored(imageOf(longRow(60), longRow(61))), false);

@@ -9,6 +9,9 @@ public final class MeaningBoundariesTest extends Court {
         MeaningBoundariesTest test = new MeaningBoundariesTest();
         test.cases();
         test.numbersOfCases();
+        test.termsFromTheLeft();
+        test.behindUnless();
+        test.likeWords();
         test.emptyLaw();
         test.peaceOfAllCases();
         test.peaceOfOneCase();
@@ -21,12 +24,15 @@ public final class MeaningBoundariesTest extends Court {
         test.changesWithinTheLimit();
         test.changesWithinSixtySigns();
         test.changesKeepThePeace();
+        test.changesOfJoints();
         test.numbersOfSigns();
         test.shortSentences();
         test.literalsInTheirOrder();
         test.oneOrTwoShortSentences();
         test.likeFewest();
         test.waysOfThree();
+        test.waysOfOneKindMore();
+        test.waysInOneOrder();
         test.waysOfTwentySigns();
         test.wayThroughALongerLaw();
         test.moreVotes();
@@ -62,7 +68,8 @@ public final class MeaningBoundariesTest extends Court {
             due("forbids(true, beyond)", x.forbids(true, count), NONE);
             due("often all", ask("often all"), count);
             if (count > 0) {
-                law("abcd".charAt(whos - 1) + " and " + "efgh".charAt(whats - 1) + " and " + "ijkl".charAt(whens - 1) + ".");
+                law("abcd".charAt(whos - 1) + " and " + "efgh".charAt(whats - 1) + " and " + "ijkl".charAt(whens - 1)
+                    + ".");
                 due("the last case alone", x.size(false, 2), 1);
                 due("forbids(false, last)", x.forbids(false, count - 1), 1);
                 due("borne(last, 0)", x.borne(count - 1, 0), 0);
@@ -83,6 +90,64 @@ public final class MeaningBoundariesTest extends Court {
             due("size(false, 2)", x.size(false, 2), 1);
             due("forbids", x.forbids(false, number), 1);
             due("its parts", ask("first who=" + who + " and what=" + what + " and when=" + when), number);
+        }
+    }
+
+    private void dueForbidden(String law, int... cases) {
+        due("law of " + law, law(law) > 0, true);
+        due("size(false, 2) of " + law, x.size(false, 2), cases.length);
+        for (int k = 0; k < cases.length; k++) {
+            due(law + " forbids " + cases[k], x.forbids(false, cases[k]), 1);
+        }
+    }
+
+    /** "TERMS from the left on: and: if they held and this TERM does; or: if one does"; "not: if the TERM does not". */
+    private void termsFromTheLeft() {
+        speak(FOUR);
+        dueForbidden("a.", 0, 2);
+        dueForbidden("not a.", 1, 3);
+        dueForbidden("not not a.", 0, 2);
+        dueForbidden("not not not a.", 1, 3);
+        dueForbidden("a and e.", 0);
+        dueForbidden("a or e.", 0, 1, 2);
+        dueForbidden("a or b and e.", 0, 1);
+        dueForbidden("e and b or a.", 0, 1, 2);
+        dueForbidden("a and not e.", 2);
+        dueForbidden("not a and e.", 1);
+        dueForbidden("not a or not e.", 1, 2, 3);
+        dueForbidden("a and b or e and not a.", 1);
+        dueForbidden("a or b and e or f and b.", 1, 3);
+    }
+
+    /** "if its TERMS hold, and those behind unless (if there are some) do not". */
+    private void behindUnless() {
+        speak(FOUR);
+        dueForbidden("a unless e.", 2);
+        dueForbidden("a unless not e.", 0);
+        dueForbidden("i unless a and e.", 1, 2, 3);
+        dueForbidden("i unless a or e.", 3);
+        dueForbidden("a and i unless e.", 2);
+        dueForbidden("b and i unless a or b and e.", 3);
+        dueForbidden("a or e unless b and i.", 0, 2);
+        dueForbidden("not a unless f.b and a.", 1);
+        dueForbidden("a unless a.");
+        dueForbidden("a unless b.", 0, 2);
+    }
+
+    /**
+     * "a new WORD that means what the second one does": the first and the last LIKE one, of each WORD, and of one
+     * another.
+     */
+    private void likeWords() {
+        for (int word = 0; word < 12; word++) {
+            char meant = (char) ('a' + word);
+            speak(tongueOf(4, 4, 4) + "like m " + meant + ";like n m;like o n;like p " + meant + ";like q m;like r q;");
+            other(meant + ".");
+            for (char like = 'm'; like <= 'r'; like++) {
+                due("law of " + like, law(like + "."), 1);
+                due(like + " means " + meant, x.parts(), NONE);
+                due("size(false, 2) of " + like, x.size(false, 2), 16);
+            }
         }
     }
 
@@ -285,7 +350,37 @@ public final class MeaningBoundariesTest extends Court {
         due("changes(1)", x.changes(1), 0);
     }
 
-    /** "SIGNS: WORDS by sorts, as they were told (0 .. 3 who, 4 .. 7 what, 8 .. 11 when, 12 .. 17 LIKE ones), 18 and, ..". */
+    /** Whether THE PEACE is kept where SENTENCES are parted or put together, others ahead of them and behind them. */
+    private void changesOfJoints() {
+        String[] joints = {".", " and ", " or ", " unless "};
+        int[] signs = {STOP, AND, OR, UNLESS};
+        // a.b. and a or b. forbid all, a and b. nothing, a unless b. forbids a.
+        boolean[][] forbids = {{true, true}, {false, false}, {true, true}, {true, false}};
+        String[] around = {"", "e and f.", "e and f.".repeat(9)};
+        for (int k = 0; k < 256; k++) {
+            int before = k % 4;
+            int after = k / 4 % 4;
+            int word = k / 16 % 2;
+            boolean free = k / 32 % 2 == 1;
+            if (k / 64 >= 3 || before == after || forbids[before][word] == free) {
+                continue;
+            }
+            for (String behind : new String[] {"", "e and f.", "e and f.i and not i."}) {
+                String ahead = around[k / 64];
+                speak(FOUR + "peace " + (free ? "free " : "forbid ") + "ab".charAt(word) + " any any;");
+                due("law", law(ahead + "a" + joints[before] + "b." + behind) > 0, true);
+                int place = new int[] {1, 5, 37}[k / 64];
+                due("the joint", x.sign(false, place), signs[before]);
+                due(ahead + "a" + joints[after] + "b." + behind, x.swap(place, signs[after]) != NONE,
+                    forbids[after][word] != free);
+            }
+        }
+    }
+
+    /**
+     * "SIGNS: WORDS by sorts, as they were told (0 .. 3 who, 4 .. 7 what, 8 .. 11 when, 12 .. 17 LIKE ones), 18 and,
+     * ..".
+     */
     private void numbersOfSigns() {
         StringBuilder tongue = new StringBuilder();
         for (int k = 0; k < 4; k++) {
@@ -316,7 +411,10 @@ public final class MeaningBoundariesTest extends Court {
 
     // ---- Term III
 
-    /** "SHORT SENTENCES: each LITERAL alone; then of two LITERALS, the first by order, then the second, with and, or, unless". */
+    /**
+     * "SHORT SENTENCES: each LITERAL alone; then of two LITERALS, the first by order, then the second, with and, or,
+     * unless".
+     */
     private void shortSentences() {
         for (int words = 0; words <= 12; words++) {
             int whos = Math.min(words, 4);
@@ -381,11 +479,16 @@ public final class MeaningBoundariesTest extends Court {
         dueFewest("a and e. b and f.", 6, 2, first, second);
         dueFewest("a and e. b and f. c and g.", NONE, NONE, NONE, NONE);
         dueFewest("i.", 1, 1, 12, NONE);
+        // These three cases fall on the slot of SENTENCE 0 where the class remembers sets.
+        speak(tongueOf(4, 4, 1));
+        dueFewest("b and e. a and g. d and h.", NONE, NONE, NONE, NONE);
         speak("");
         dueFewest("", 0, 0, NONE, NONE);
     }
 
-    /** "of like ones fewer SENTENCES, then the first by the first SENTENCE, then the second (not ahead of the first)". */
+    /**
+     * "of like ones fewer SENTENCES, then the first by the first SENTENCE, then the second (not ahead of the first)".
+     */
     private void likeFewest() {
         speak(tongueOf(3, 2, 1));
         // not c is two WORDS as a. b. are, and comes as 5; e or f, not e or e .. are more.
@@ -394,12 +497,21 @@ public final class MeaningBoundariesTest extends Court {
         dueFewest("e. a.", 2, 2, 0, 6);
         speak(FOUR);
         int literals = 10;
-        // Case 0 by three WORDS: a and e, a unless f, e and a, e unless b; case 3: b unless e, b and f, f and b, f unless a.
+        // Case 0 by three WORDS: a and e, a unless f, e and a, e unless b;
+        // case 3: b unless e, b and f, f and b, f unless a.
         int aAndE = literals + (0 * literals + 4) * 3;
         int bUnlessE = literals + (2 * literals + 4) * 3 + 2;
         dueFewest("b and f. a and e.", 6, 2, aAndE, bUnlessE);
         // Cases 0 to 2 by three WORDS: a or e; a, then e has two.
         dueFewest("a or e.", 2, 2, 0, 4);
+        speak(tongueOf(3, 2, 1));
+        // Cases 0, 2, 3 by four WORDS: a (0), then c and e; e unless b, which comes later, would do.
+        dueFewest("a.c and e.", 4, 2, 0, 12 + (4 * 12 + 6) * 3);
+        dueFewest("e unless b.a.", 4, 2, 0, 12 + (4 * 12 + 6) * 3);
+        speak(tongueOf(2, 2, 2));
+        // All but case 6 by four WORDS: b (2), then e or i; e (4), then b or i would do, and i, then b or e.
+        dueFewest("b.e.i.", 4, 2, 2, 12 + (4 * 12 + 8) * 3 + 1);
+        speak(FOUR);
         // All cases: i has one WORD.
         dueFewest("a or not a.", 1, 1, 8, NONE);
     }
@@ -417,7 +529,8 @@ public final class MeaningBoundariesTest extends Court {
             dueWay("a.", "not ".repeat(nots) + "a.", nots < 4 ? nots : NONE);
             dueWay("not ".repeat(nots) + "a.", "a.", nots < 4 ? nots : NONE);
         }
-        String[] swapped = {"a and e or a.", "b and e or a.", "b or e or a.", "b or f or a.", "b or f or b.", "b or f and b."};
+        String[] swapped = {"a and e or a.", "b and e or a.", "b or e or a.", "b or f or a.", "b or f or b.",
+            "b or f and b."};
         for (int k = 0; k < swapped.length; k++) {
             dueWay(swapped[0], swapped[k], k < 4 ? k : NONE);
             dueWay(swapped[k], swapped[0], k < 4 ? k : NONE);
@@ -425,6 +538,47 @@ public final class MeaningBoundariesTest extends Court {
         dueWay("", "", 0);
         dueWay("", "a.", NONE);
         dueWay("a.", "", NONE);
+    }
+
+    /** Where the two differ by signs that are put or struck, and by others in their place. */
+    private void waysOfOneKindMore() {
+        speak(FOUR);
+        String[] laws = {"a.", "not a.", "b.", "not b.", "not not b.", "not not not b."};
+        int[][] wanted = {{0, 1, 1, 2, 3, NONE}, {1, 0, 2, 1, 2, 3}, {1, 2, 0, 1, 2, 3}, {2, 1, 1, 0, 1, 2},
+            {3, 2, 2, 1, 0, 1}, {NONE, 3, 3, 2, 1, 0}};
+        for (int from = 0; from < laws.length; from++) {
+            for (int to = 0; to < laws.length; to++) {
+                dueWay(laws[from], laws[to], wanted[from][to]);
+            }
+        }
+        dueWay("not a.not b.", "a.b.", 2);
+        dueWay("a.b.", "not b.not a.", NONE);
+        dueWay("a and e.", "not a or not e.", 3);
+        dueWay("not a and not e.", "a.not e.", 2);
+    }
+
+    /** "CHANGES one behind the other": each keeps THE PEACE, so that but one of two orders is a WAY, or none. */
+    private void waysInOneOrder() {
+        String[] from = {"not a.not b.", "a.b.", "a.b."};
+        String[] to = {"a.b.", "not a.not b.", "b.a."};
+        // Behind the first change alone, behind the second alone: not a.b. forbids b, a.not b. forbids a.
+        for (String peace : new String[] {"forbid a any any;", "forbid b any any;"}) {
+            for (int k = 0; k < from.length; k++) {
+                speak(FOUR + "peace " + peace);
+                dueWay(from[k], to[k], 2);
+            }
+        }
+        speak(FOUR + "peace forbid a any any;peace forbid b any any;");
+        for (int k = 0; k < from.length; k++) {
+            dueWay(from[k], to[k], k == 2 ? 3 : NONE);
+        }
+        // Of three changes the one that the others move by two places comes first: each other order breaks the peace.
+        speak(FOUR + "peace free b e i;");
+        dueWay("not not a and e.", "a and not e.", 3);
+        speak(FOUR + "peace free b f i;");
+        dueWay("not not a or e.", "a and e.", 3);
+        speak(FOUR + "peace forbid a e i;");
+        dueWay("a and e.", "not not a or e.", 3);
     }
 
     /** "none such with more than 20 SIGNS in one of the two". */
@@ -443,7 +597,10 @@ public final class MeaningBoundariesTest extends Court {
         dueWay(seven + "a.a.a.", seven + "a.a.a.a.", NONE);
     }
 
-    /** The two have 20 SIGNS; what is between them may have 21: here the peace lets not come ahead of its striking alone. */
+    /**
+     * The two have 20 SIGNS; what is between them may have 21: here the peace lets not come ahead of its striking
+     * alone.
+     */
     private void wayThroughALongerLaw() {
         String nothing = "a and b.a and not a.b and not b.";
         speak("who a;who b;what e;when i;peace forbid a any any;");
@@ -538,12 +695,16 @@ public final class MeaningBoundariesTest extends Court {
             fine('a', "often " + "not ".repeat(depth) + "all", 1 - depth % 2);
             fine('a', "often " + "not[".repeat(depth / 2) + "all" + "]".repeat(depth / 2), 1 - depth / 2 % 2);
         }
-        wrongEach('a', 4, "often not not not not not not ^not all", "often not[not[not[^not all]]]", "often not[not[not[^[");
+        wrongEach('a', 4, "often not not not not not not ^not all", "often not[not[not[^not all]]]",
+            "often not[not[not[^[");
         wrongEach('a', 4, "first not[not[1=(borne ^borne 0", "first not[not[1=(borne ^(", "first not 1=(((((^(");
         wrongEach('a', 4, "total ((((((min\n^(1,2", "total ((((((max^(", "total (((((min(^(");
         fine('a', "first not[not[1=(borne 0)]]", NONE);
         wrongEach('a', 1, "total ((((((^", "total ((((((1^", "often [[[[[[^", "often [[[[[[all^", "total ((((((min^");
-        wrongEach('a', 1, "total ((((((^[", "total ((((((^not", "often [[[[[[^]", "total borne borne borne borne borne borne^");
+        wrongEach('a', 1, "total ((((((^[", "total ((((((^not", "often [[[[[[^]",
+            "total borne borne borne borne borne borne^");
+        wrongEach('a', 1, "^all 1", "^case", "^not all", "^borne 0", "total ^all", "total ^total 1",
+            "first ^often all");
         wrongEach('a', 1, "total ((((((^nots", "often [[[[[[^born", "total ((((((min ^1");
     }
 
@@ -580,7 +741,8 @@ public final class MeaningBoundariesTest extends Court {
     /** "each PART but N, each sum, difference, product above 10 to the 6 is that, below -10 to the 6 likewise". */
     private void heldAtAMillion() {
         speak(ONE);
-        String[] texts = {"999*1001", "1000*1000", "1000*1000+1", "1000*1000-1", "1001*1000", "9999*9999", "1000*1000+1-1",
+        String[] texts = {"999*1001", "1000*1000", "1000*1000+1", "1000*1000-1", "1001*1000", "9999*9999",
+            "1000*1000+1-1",
             "1000*1000+1000*1000", "9999*9999*9999", "9999*9999/9999", "2*(9999*101)/2", "(1000*1000+1)/2"};
         long[] wanted = {999999, HELD, HELD, 999999, HELD, HELD, 999999, HELD, HELD, 100, 500000, 500000};
         for (int k = 0; k < texts.length; k++) {
@@ -603,7 +765,8 @@ public final class MeaningBoundariesTest extends Court {
     /** "/ gives the greatest whole number not above, by 0 it gives 0". */
     private void quotients() {
         speak(ONE);
-        String[] texts = {"6/2", "7/2", "8/2", "(0-6)/2", "(0-7)/2", "(0-8)/2", "7/(0-2)", "6/(0-2)", "(0-7)/(0-2)", "0/7",
+        String[] texts = {"6/2", "7/2", "8/2", "(0-6)/2", "(0-7)/2", "(0-8)/2", "7/(0-2)", "6/(0-2)", "(0-7)/(0-2)",
+            "0/7",
             "1/2", "(0-1)/2", "(0-1)/9999", "1/(0-9999)", "7/0", "0/0", "(0-7)/0", "7/(1-1)", "1/1", "9999/1", "7/0+3",
             "1000*1000/(0-1)", "(0-1000*1000)/3"};
         long[] wanted = {3, 3, 4, -3, -4, -4, -4, -3, 3, 0, 0, -1, -1, -1, 0, 0, 0, 0, 1, 9999, 3, -HELD, -333334};
@@ -612,7 +775,10 @@ public final class MeaningBoundariesTest extends Court {
         }
     }
 
-    /** "The CASE's number; the number of its who, its what, its when among those of their sort", of the first and the last. */
+    /**
+     * "The CASE's number; the number of its who, its what, its when among those of their sort", of the first and the
+     * last.
+     */
     private void partsOfCases() {
         speak(tongueOf(4, 3, 2));
         law("d and g and j.");

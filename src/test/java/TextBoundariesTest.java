@@ -1,7 +1,9 @@
 import java.util.List;
 import java.util.Set;
 
-/** Term I, sentence by sentence: the last text inside each boundary, the first one beyond; ^ marks the fault's place. */
+/**
+ * Term I, sentence by sentence: the last text inside each boundary, the first one beyond; ^ marks the fault's place.
+ */
 public final class TextBoundariesTest extends Court {
     private static final List<String> OWN_WORDS = List.of("who", "what", "when", "like", "limit", "party", "votes",
         "wish", "peace", "judged", "forbid", "free", "any", "worth", "and", "or", "not", "unless");
@@ -79,6 +81,8 @@ public final class TextBoundariesTest extends Court {
             due("fullest has(" + what + ")", x.has(what), wanted[what]);
         }
         due("fullest worth", x.worth(false, 0), 16 * 64 * 99);
+        due("fullest votes(true)", x.votes(true), 0);
+        due("fullest rest()", x.rest(), 1);
         due("fullest letter(17, 1)", x.letter(17, 1), 6);
         due("fullest letter(24, 0)", x.letter(24, 0), 5);
         wrong('t', 5, text + "^limit 40;");
@@ -104,7 +108,8 @@ public final class TextBoundariesTest extends Court {
         fine('t', full, before + most);
         due("most of " + word, x.has(kind), most);
         fine('t', full + "limit 7;", before + most + 1);
-        for (String rest : new String[] {statement.substring(word.length()), "", ";", " ", " any", " 7", ".", " abcdefgh"}) {
+        for (String rest : new String[] {statement.substring(word.length()), "", ";", " ", " any", " 7", ".",
+            " abcdefgh"}) {
             wrong('t', 5, full + "^" + word + rest);
             wrong('t', 5, full + " limit 7; \n^" + word + rest);
         }
@@ -282,6 +287,9 @@ public final class TextBoundariesTest extends Court {
                     wrong('t', 1, text.replace("%", "^" + own));
                 }
             }
+            if (OWN_WORDS.indexOf(own) == 6 || OWN_WORDS.indexOf(own) > 9) {
+                wrongEach('t', 1, "^" + own + " x;", "^" + own + ";", "limit 7;^" + own + " x 1;");
+            }
             wrong('t', 1, "party p votes 1;wish ^" + own + " free any any any worth 1;");
             if (!own.equals("not")) {
                 wrongLaw(1, "^" + own + ".");
@@ -333,7 +341,8 @@ public final class TextBoundariesTest extends Court {
             int statements = k < 2 ? 1 : 2;
             fine('t', starts[k] + "forbid any any any" + ends[k], statements);
             fine('t', starts[k] + "free any any any" + ends[k], statements);
-            for (String how : new String[] {"any", "not", "worth", "p", "frees", "forbi", "fre", ";", "1", "FREE", "\u00e9"}) {
+            for (String how : new String[] {"any", "not", "worth", "p", "frees", "forbi", "fre", ";", "1", "FREE",
+                "\u00e9"}) {
                 wrong('t', 1, starts[k] + "^" + how + " any any any" + ends[k]);
             }
             wrong('t', 1, starts[k] + "forbid ^forbid any any any");
@@ -341,7 +350,10 @@ public final class TextBoundariesTest extends Court {
         }
     }
 
-    /** "a WORD of who (or any), of what (or any), of when (or any), in this order"; "one that is none of what is asked". */
+    /**
+     * "a WORD of who (or any), of what (or any), of when (or any), in this order"; "one that is none of what is
+     * asked".
+     */
     private void onesOfTheirSort() {
         String ahead = "who a;who d;what b;what e;when c;when f;like g a;like h b;like i c;party p votes 1;";
         String[] words = {"a", "d", "b", "e", "c", "f", "g", "h", "i", "p", "z"};
@@ -404,7 +416,8 @@ public final class TextBoundariesTest extends Court {
     }
 
     private void blanksWhereOneLikes() {
-        String[] tokens = {"who", "a", ";", "what", "b", ";", "when", "c", ";", "like", "d", "a", ";", "limit", "9", ";",
+        String[] tokens = {"who", "a", ";", "what", "b", ";", "when", "c", ";", "like", "d", "a", ";", "limit", "9",
+            ";",
             "party", "p", "votes", "3", ";", "wish", "p", "forbid", "a", "b", "c", "worth", "5", ";", "peace", "forbid",
             "any", "any", "any", ";", "judged", "forbid", "any", "b", "any", ";"};
         fine('t', " \n" + String.join("\n  \n", tokens) + "\n\n ", 9);
@@ -421,7 +434,8 @@ public final class TextBoundariesTest extends Court {
     /** "(words and numbers side by side need one)". */
     private void sideBySide() {
         wrongEach('t', 1, "^whoa;", "limit^7;", "limit 7^who a;", "party p votes^1;", "party pvotes ^1;",
-            "party p votes 1;wish p free any any any worth^1;", "party p votes 1;wish p free any any any^1", "who a^1;");
+            "party p votes 1;wish p free any any any worth^1;", "party p votes 1;wish p free any any any^1",
+                "who a^1;");
         fineTongue("who a;what b;when c;", 3);
         wrongLaw(1, "a^1.");
         wrongLaw(1, "a and^1");
@@ -437,13 +451,21 @@ public final class TextBoundariesTest extends Court {
 
     /** "at the text's length, if it ends too soon": behind each word, number and sign of a text. */
     private void endsTooSoon() {
-        String tongue = "who a ; what b ; when c ; like d a ; limit 40 ; party p votes 3 ; wish p forbid a any c worth 5 ; "
+        String tongue = "who a ; what b ; when c ; like d a ; limit 40 ; "
+            + "party p votes 3 ; wish p forbid a any c worth 5 ; "
             + "peace forbid any b any ; judged forbid any any any ;";
         cutEach('t', tongue, ";");
         fineTongue(tongue, 9);
         cutEach('l', "not not a or b and not c unless d or a . a unless not b . c .", ".");
         cutEach('o', "a . not b and c . a unless b .", ".");
-        cutEach('a', "first not [ all and case + 1 * ( who - 2 ) = min ( what , borne law ) or other < max ( 3 , 4 ) ]", "");
+        cutEach('a',
+            "first not [ all and case + 1 * ( who - 2 ) = min ( what , borne law ) or other < max ( 3 , 4 ) ]", "");
+        for (String end : new String[] {"^", " ^", "\n\n^"}) {
+            wrongEach('a', 1, "first all or" + end, "first all and" + end, "first all or not" + end, "last all or 1"
+                + end);
+            wrongEach('a', 1, "often all and 1 =" + end, "first all or 1 = 1 and" + end, "first 1 < 2 or" + end);
+            wrongEach('a', 1, "total 1 +" + end, "total 1 *" + end, "most 1 - 2 /" + end, "least 1 / 2 -" + end);
+        }
         cutEach('a', "total min ( case / 2 , max ( 1 , borne ( 0 ) ) )", "");
     }
 
@@ -480,7 +502,9 @@ public final class TextBoundariesTest extends Court {
 
     // ---- laws
 
-    /** "Its WORDS are all but the . : not above the limit"; "of a LAW one WORD above the limit .., at its first byte". */
+    /**
+     * "Its WORDS are all but the . : not above the limit"; "of a LAW one WORD above the limit .., at its first byte".
+     */
     private void wordsWithinTheLimit() {
         for (int limit : new int[] {1, 2, 3, 9, 39, 40}) {
             fineTongue("who a;limit " + limit + ";", 2);
@@ -499,7 +523,8 @@ public final class TextBoundariesTest extends Court {
     /** "(whatever WORD it is)". */
     private void whateverWordItIs() {
         fineTongue("who a;what b;when c;like d a;party p votes 1;limit 3;", 6);
-        String[] words = {"a", "b", "c", "d", "p", "zz", "abcdefghi", "first", "and", "or", "not", "unless", "who", "any",
+        String[] words = {"a", "b", "c", "d", "p", "zz", "abcdefghi", "first", "and", "or", "not", "unless", "who",
+            "any",
             "judged", "worth"};
         for (String word : words) {
             wrongLaw(5, "not not a. ^" + word + ".");
@@ -547,15 +572,19 @@ public final class TextBoundariesTest extends Court {
         wrongLaw(1, fewer + "not not not a^;");
     }
 
-    /** "TERMS: TERM { and TERM, or or TERM }": a SENTENCE has one TERM at least, and one behind each and, or, unless. */
+    /**
+     * "TERMS: TERM { and TERM, or or TERM }": a SENTENCE has one TERM at least, and one behind each and, or, unless.
+     */
     private void termsOfSentences() {
         fineTongue("who a;what b;", 2);
         fineLaw("", 0);
         fineLaw("a.", 1);
         fineLaw("not a.", 2);
         fineLaw("a and b or not b unless not not a or b.", 12);
-        String[] texts = {"^.", "a.^.", "not^.", "a and^.", "a or^.", "a unless^.", "a unless b and^.", "a ^b.", "a ^not b.",
-            "^and a.", "^or a.", "^unless a.", "a and ^and b.", "a or ^unless b.", "a unless ^or b.", "not ^and a."};
+        String[] texts = {"^.", "a.^.", "not^.", "a and^.", "a or^.", "a unless^.", "a unless b and^.", "a ^b.",
+            "a ^not b.",
+            "^and a.", "^or a.", "^unless a.", "a and ^and b.", "a or ^unless b.", "a unless ^or b.", "not ^and a.",
+            "a unless b ^a.", "a unless b ^not a.", "not ^or a.", "not ^unless a.", "a unless not ^or b."};
         for (String text : texts) {
             wrongLaw(1, text);
         }

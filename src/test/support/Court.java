@@ -170,7 +170,8 @@ abstract class Court {
         tellLaw(all, false);
         tellLaw(all, true);
         for (int what = 0; what < 3; what++) {
-            all.append(x.fitting(what)).append(' ').append(x.changes(what)).append(' ').append(x.octet(what)).append(' ');
+            all.append(x.fitting(what)).append(' ').append(x.changes(what)).append(' ');
+            all.append(x.octet(what)).append(' ');
         }
         all.append(x.judged()).append(' ').append(x.rest()).append(' ').append(x.shorts());
         return all.toString();
