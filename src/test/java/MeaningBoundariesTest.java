@@ -38,6 +38,7 @@ public final class MeaningBoundariesTest extends Court {
         test.moreVotes();
         test.springsInOrder();
         test.draws();
+        test.unknownWords();
         test.openAtOnce();
         test.closedAgain();
         test.heldAtAMillion();
@@ -412,8 +413,8 @@ public final class MeaningBoundariesTest extends Court {
     // ---- Term III
 
     /**
-     * "SHORT SENTENCES: each LITERAL alone; then of two LITERALS, the first by order, then the second, with and, or,
-     * unless".
+     * "SHORT SENTENCES: each LITERAL alone; then of two LITERALS, the first by order, then the second (two of one
+     * WORD, too), with and, or, unless, in this order."
      */
     private void shortSentences() {
         for (int words = 0; words <= 12; words++) {
@@ -680,6 +681,17 @@ public final class MeaningBoundariesTest extends Court {
     }
 
     // ---- Term IV
+
+    /** "1 as in I (an unknown word at its first byte; what stands behind it, too)": behind the whole QUESTION. */
+    private void unknownWords() {
+        fineTongue(ONE, 3);
+        fine('a', "first all", 0);
+        wrongEach('a', 1, "^x", "^firs all", "^firsts all", "^abcdefgh", "^a 1", "^law", "first ^x=1", "first ^a=1");
+        wrongEach('a', 1, "total ^x", "total 1+^abcdefgh", "total borne ^cas", "total ^cases", "total min(1,^maxi");
+        wrongEach('a', 1, "first all ^x", "first all ^]", "first all^;", "first all ^1", "first all ^=1");
+        wrongEach('a', 1, "total 1 ^x", "total 1^)", "total (1) ^(1)", "total 1 ^1", "total 1 ^case", "total 1 ^< 2");
+        wrongEach('a', 1, "often 1=1 ^=1", "often all ^not all", "often [all] ^[all]", "total 1^.", "total 1 ^\u00ff");
+    }
 
     /** "4 the 7th of ( [ not borne that is open at once .., at it". */
     private void openAtOnce() {
