@@ -1,9 +1,12 @@
+import java.lang.reflect.Array;
 import java.lang.reflect.Field;
 import java.lang.reflect.Method;
 import java.lang.reflect.Modifier;
 import java.nio.file.Files;
 import java.nio.file.Path;
 import java.util.ArrayList;
+import java.util.Collections;
+import java.util.IdentityHashMap;
 import java.util.List;
 import java.util.Set;
 import java.util.TreeSet;
@@ -37,6 +40,8 @@ public final class LanguageTest {
         test.words(plain);
         test.library(plain);
         test.methods(plain);
+        test.making(plain);
+        test.room();
         test.bench.finish("LanguageTest");
     }
 
@@ -171,5 +176,53 @@ public final class LanguageTest {
             }
         }
         none("rule 11", wrong);
+    }
+
+    /** Rule 12, and more than it asks: only constructors make anything, so that a run's calls make nothing. */
+    private void making(String plain) {
+        Set<String> makers = new TreeSet<>(Set.of("pack"));
+        matches("class \\w+", plain).forEach(line -> makers.add(line.substring(6)));
+        List<String> wrong = new ArrayList<>();
+        Pattern opening = Pattern.compile("\\s+(?:(?:public|private|static) )*[\\w\\[\\] ]*?(\\w+)\\(.*\\) \\{");
+        String method = "";
+        for (String line : plain.split("\n")) {
+            Matcher head = opening.matcher(line);
+            if (head.matches() && !line.matches("\\s+(if|for|while|switch|\\}) ?.*")) {
+                method = head.group(1);
+            }
+            if (line.matches(".*\\bnew\\b.*") && !makers.contains(method)) {
+                wrong.add(method + ": " + line.trim());
+            }
+        }
+        none("made by calls", wrong);
+    }
+
+    /** The room of a run has some 600,000 objects, 7.3 million fields and elements: one object takes little of it. */
+    private void room() throws Exception {
+        Set<Object> seen = Collections.newSetFromMap(new IdentityHashMap<>());
+        long elements = count(new HundredWords(), seen);
+        bench.due("objects and arrays of one HundredWords: " + seen.size(), seen.size() < 200, true);
+        bench.due("fields and elements of one HundredWords: " + elements, elements < 25000, true);
+    }
+
+    private static long count(Object made, Set<Object> seen) throws Exception {
+        if (made == null || made instanceof String || !seen.add(made)) {
+            return 0;
+        }
+        long sum = 0;
+        if (made.getClass().isArray()) {
+            sum += Array.getLength(made);
+            for (int k = 0; made instanceof Object[] row && k < row.length; k++) {
+                sum += count(row[k], seen);
+            }
+            return sum;
+        }
+        for (Field field : made.getClass().getDeclaredFields()) {
+            if (!Modifier.isStatic(field.getModifiers())) {
+                field.setAccessible(true);
+                sum += 1 + (field.getType().isPrimitive() ? 0 : count(field.get(made), seen));
+            }
+        }
+        return sum;
     }
 }
